@@ -14,7 +14,7 @@ public final class StepGraphModel {
     private static final int LOOKS = 7;
     private static final double[] WEIGHTS = {0.0, -0.0, 0.1, 0.25, 0.3, 0.5, 1.0, 2.0, 3.0, 7.5, 999999.5, 1000000.0,
         -0.5, 1000000.5, Double.NaN, Double.POSITIVE_INFINITY};
-    private static final int[] FAR = {-1, -7, 99, Integer.MIN_VALUE, Integer.MAX_VALUE};
+    private static final int[] FAR = {-1, -7, 4, 12, 99, Integer.MIN_VALUE, Integer.MAX_VALUE};
 
     private static int wrong = 0;
     // A generator of its own keeps the runs the same on every machine.

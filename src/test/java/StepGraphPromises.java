@@ -372,21 +372,23 @@ public final class StepGraphPromises {
     private static void valueOfWidths() {
         promise = "9 value, widths";
         StepGraph x = new StepGraph();
-        x.size(5);
+        x.size(6);
         x.edge(0, 1, 2.0);
         x.edge(0, 2, 1000000.0);
         x.edge(2, 1, 5.5);
         x.edge(1, 3, -0.0);
+        x.edge(1, 4, 9.0);
         begin(x, 3, 0);
         step(x);
         due("value(1)", x.value(1), 2);
-        finish(x, 99);
+        due("equal is not better: finish(99)", finish(x, 99), 3);
         due("value(0)", x.value(0), 1000000);
         due("value(1)", x.value(1), 5.5);
         due("value(2)", x.value(2), 1000000);
         due("value(3)", x.value(3), 0);
         due("1 / value(3), as -0.0 counts as 0", 1 / x.value(3), Double.POSITIVE_INFINITY);
-        due("value(4)", x.value(4), -1);
+        due("value(4), behind a narrower edge", x.value(4), 5.5);
+        due("value(5)", x.value(5), -1);
     }
 
     private static void valueWrong() {
@@ -407,6 +409,8 @@ public final class StepGraphPromises {
         due("sum() with one value", x.sum(), 0);
         finish(x, 9);
         due("sum()", x.sum(), 0.75);
+        x.parts(1);
+        due("sum() when ended", x.sum(), 0);
         begin(x, 1, 0);
         due("sum() of groups", x.sum(), 3);
         begin(x, 3, 0);
