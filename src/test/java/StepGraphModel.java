@@ -12,6 +12,7 @@ public final class StepGraphModel {
     // Each call is followed by looks: 64 * (1 + 7) are the 512 calls that an object is good for.
     private static final int CALLS = 64;
     private static final int LOOKS = 7;
+    private static final int SECONDS_AT_MOST = 120;
     private static final double[] WEIGHTS = {0.0, -0.0, 0.1, 0.25, 0.3, 0.5, 1.0, 2.0, 3.0, 7.5, 999999.5, 1000000.0,
         -0.5, 1000000.5, Double.NaN, Double.POSITIVE_INFINITY};
     private static final int[] FAR = {-1, -7, 4, 12, 99, Integer.MIN_VALUE, Integer.MAX_VALUE};
@@ -200,6 +201,7 @@ public final class StepGraphModel {
     }
 
     public static void main(String[] args) {
+        failIfStillRunning();
         for (int run = 1; run <= RUNS && wrong < 20; run++) {
             mixedCalls(run);
         }
@@ -207,6 +209,21 @@ public final class StepGraphModel {
         if (wrong != 0) {
             System.exit(1);
         }
+    }
+
+    // A call that does not end is a fault like any other, and must not keep the tests from ending.
+    private static void failIfStillRunning() {
+        Thread watch = new Thread(() -> {
+            try {
+                Thread.sleep(SECONDS_AT_MOST * 1000L);
+            } catch (InterruptedException e) {
+                return;
+            }
+            System.out.println("no end after " + SECONDS_AT_MOST + " seconds");
+            Runtime.getRuntime().halt(1);
+        });
+        watch.setDaemon(true);
+        watch.start();
     }
 
     // Calls that change the graph end the run, so they are rare once it has been built.

@@ -3,12 +3,14 @@ public final class StepGraphPromises {
     private static final int ARGUMENT = -101;
     private static final int STATE = -102;
     private static final int OTHER = -103;
+    private static final int SECONDS_AT_MOST = 120;
     private static final int[] NO_VERTEX_OF_THREE = {-1, 3, 12, Integer.MIN_VALUE, Integer.MAX_VALUE};
 
     private static int wrong = 0;
-    private static String promise = "";
+    private static volatile String promise = "";
 
     public static void main(String[] args) {
+        failIfStillRunning();
         newObject();
         size();
         sizeEndsRun();
@@ -43,6 +45,21 @@ public final class StepGraphPromises {
         if (wrong != 0) {
             System.exit(1);
         }
+    }
+
+    // A call that does not end is a fault like any other, and must not keep the tests from ending.
+    private static void failIfStillRunning() {
+        Thread watch = new Thread(() -> {
+            try {
+                Thread.sleep(SECONDS_AT_MOST * 1000L);
+            } catch (InterruptedException e) {
+                return;
+            }
+            System.out.println("no end after " + SECONDS_AT_MOST + " seconds in promise " + promise);
+            Runtime.getRuntime().halt(1);
+        });
+        watch.setDaemon(true);
+        watch.start();
     }
 
     private static void newObject() {
