@@ -771,6 +771,8 @@ public final class StepGraphBounds {
                 Subject x = made(state.calls);
                 due(x, parts(k), true);
                 due(x, size(5), true);
+                // Said again, as the document is silent on what size() does to the parts.
+                due(x, parts(k), true);
                 due(x, edge(k - 1, 4, 1.0), true);
                 due(x, begin(0, k - 1), 1);
                 due(x, pending(4, k - 1), 1.0);
